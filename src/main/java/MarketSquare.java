@@ -541,23 +541,15 @@ public final class MarketSquare {
 
     private int firstSpotOfSquare(Trader t) {
         for (int i = 0; i < MOST_ROWS; i++) {
-            int place = firstPlaceOfRow(t, i);
-            if (place != NONE) {
-                return i * MOST_PLACES + place;
-            }
-        }
-        return NONE;
-    }
-
-    private int firstPlaceOfRow(Trader t, int rowNumber) {
-        Row row = rows[rowNumber];
-        int open = 0;
-        for (int end = 0; end < row.places; end++) {
-            // Where fewer PLACES than the FRONT lie open up to here, no STALL can end here.
-            open = row.isOpenFor(t, end) ? open + 1 : 0;
-            int place = end - t.front + 1;
-            if (open >= t.front && against(t, rowNumber, place) == 0) {
-                return place;
+            Row row = rows[i];
+            int open = 0;
+            for (int end = 0; end < row.places; end++) {
+                // Where fewer PLACES than the FRONT lie open up to here, no STALL can end here.
+                open = row.isOpenFor(t, end) ? open + 1 : 0;
+                int place = end - t.front + 1;
+                if (open >= t.front && against(t, i, place) == 0) {
+                    return i * MOST_PLACES + place;
+                }
             }
         }
         return NONE;
@@ -933,9 +925,8 @@ public final class MarketSquare {
         /** Known at the end of the day alone. */
         boolean away;
 
+        /** The STALL is gone before: it goes with its FEE. */
         void clear() {
-            stall.remove();
-            cameAt = 0;
             there = false;
             word = false;
             slighted = false;

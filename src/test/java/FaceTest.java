@@ -25,7 +25,29 @@ public final class FaceTest {
         tally.check("constructors", constructorsOf(face).toString(), "[public MarketSquare()]");
         tally.check("the class", Modifier.toString(face.getModifiers()), "public final");
         tally.check("NONE", String.valueOf(MarketSquare.NONE), "-1");
+        tally.check("static fields that are not final", staticStateOf(face).toString(), "[]");
+        tally.check("private methods with a public one's name", sharedNamesOf(face).toString(), "[]");
         tally.close("FaceTest");
+    }
+
+    private static Set<String> staticStateOf(Class<?> face) {
+        Set<String> found = new TreeSet<>();
+        for (Field field : face.getDeclaredFields()) {
+            if (Modifier.isStatic(field.getModifiers()) && !Modifier.isFinal(field.getModifiers())) {
+                found.add(field.getName());
+            }
+        }
+        return found;
+    }
+
+    private static Set<String> sharedNamesOf(Class<?> face) {
+        Set<String> open = new TreeSet<>();
+        Set<String> hidden = new TreeSet<>();
+        for (Method method : face.getDeclaredMethods()) {
+            (Modifier.isPrivate(method.getModifiers()) ? hidden : open).add(method.getName());
+        }
+        hidden.retainAll(open);
+        return hidden;
     }
 
     private static Set<String> methodsOf(Class<?> face) {

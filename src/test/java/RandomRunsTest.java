@@ -17,6 +17,8 @@ public final class RandomRunsTest {
     private int mostTrades;
     private int mostTraders;
     private int mostWrong;
+    /** How likely a day goes on to its next TIME: one call in so many. */
+    private int leisure;
 
     public static void main(String[] args) {
         RandomRunsTest test = new RandomRunsTest();
@@ -33,11 +35,12 @@ public final class RandomRunsTest {
         where = "seed " + seed;
         calls = 0;
         rows = 1 + random.nextInt(random.nextInt(10) == 0 ? 40 : 4);
-        places = 1 + random.nextInt(random.nextInt(10) == 0 ? 200 : 16);
+        places = random.nextInt(10) == 0 ? 1 + random.nextInt(200) : 4 + random.nextInt(16);
         mostFront = 1 + random.nextInt(random.nextInt(10) == 0 ? 20 : 4);
         mostTrades = 1 + random.nextInt(4);
         mostTraders = 1 + random.nextInt(random.nextInt(10) == 0 ? 210 : 14);
         mostWrong = random.nextInt(4) == 0 ? 5 : 60;
+        leisure = 3 + random.nextInt(20);
         layOut();
         while (calls < CALLS) {
             if (random.nextInt(3) == 0) {
@@ -51,7 +54,10 @@ public final class RandomRunsTest {
     /** A setting in which days can go on: ROWS, TRADES, TRADERS, PITCHES and WISHES. */
     private void layOut() {
         for (int i = 0; i < rows && random.nextInt(8) != 0; i++) {
-            call("row", i, 1 + random.nextInt(places));
+            call("row", i, 1 + places / 2 + random.nextInt(places - places / 2));
+        }
+        for (int i = random.nextInt(2 * rows + 1); i > 0 && calls < 100; i--) {
+            call("mark", row(), place(), 2, true);
         }
         for (int i = 0; i < mostTrades; i++) {
             newTrade();
@@ -77,14 +83,14 @@ public final class RandomRunsTest {
                 actOnTheMorning();
                 break;
             case 2:
-                if (random.nextInt(4) == 0) {
+                if (random.nextInt(leisure) == 0) {
                     call("bell");
                 } else {
                     actAmongStalls();
                 }
                 break;
             default:
-                if (random.nextInt(8) == 0) {
+                if (random.nextInt(leisure) == 0) {
                     call("close");
                 } else if (random.nextInt(2) == 0) {
                     call("next");
@@ -112,11 +118,14 @@ public final class RandomRunsTest {
     }
 
     private void actOnTheMorning() {
+        if (random.nextInt(leisure) == 0) {
+            call("bell");
+            return;
+        }
         switch (random.nextInt(8)) {
-            case 0: case 1: call("bell"); break;
-            case 2: call("word", trader()); break;
-            case 3: wishOrPay(); break;
-            case 4: call("hour", random.nextInt(3)); break;
+            case 0: call("word", trader()); break;
+            case 1: wishOrPay(); break;
+            case 2: call("hour", random.nextInt(3)); break;
             default: call("there", trader()); break;
         }
     }
@@ -125,8 +134,8 @@ public final class RandomRunsTest {
         switch (random.nextInt(9)) {
             case 0: call("leave", trader()); break;
             case 1: call("hour", plain.count(4) + random.nextInt(3)); break;
-            case 2: case 3: call("move", trader(), row(), place()); break;
-            case 4: case 5: call("change", trader(), trader()); break;
+            case 2: case 3: call("move", standing(), row(), place()); break;
+            case 4: case 5: call("change", standing(), standing()); break;
             case 6: wishOrPay(); break;
             default: call("there", trader()); break;
         }
@@ -183,9 +192,12 @@ public final class RandomRunsTest {
 
     private void newTrader() {
         call("trader", random.nextInt(3) == 0 ? 1 : number(5), trade(), above(1, mostFront));
-        if (flip()) {
-            long newest = plain.count(1) - 1;
+        long newest = plain.count(1) - 1;
+        if (random.nextInt(4) != 0) {
             call("wishes", newest, true);
+        }
+        if (newest >= 0 && plain.look((int) newest, 0) % 2 == 0 && plain.count(2) == 0) {
+            call("pitch", newest, row(), place());
         }
     }
 
@@ -218,6 +230,15 @@ public final class RandomRunsTest {
 
     private long trader() {
         return number((int) plain.count(1));
+    }
+
+    /** Mostly a TRADER who has a STALL, if there is one. */
+    private long standing() {
+        long found = trader();
+        for (int i = 0; i < 6 && (found < 0 || found >= plain.count(1) || plain.look((int) found, 5) == -1); i++) {
+            found = trader();
+        }
+        return found;
     }
 
     private boolean flip() {
