@@ -4,6 +4,9 @@ import java.util.Random;
 public final class RandomRunsTest {
     private static final int RUNS = 3000;
     private static final int CALLS = 512;
+    /** Where ints end, and where they go round if 200, a FRONT or a bit is made of them. */
+    private static final long[] EXTREMES = {Integer.MIN_VALUE, Integer.MIN_VALUE + 1, Integer.MAX_VALUE,
+        Integer.MAX_VALUE - 1, Integer.MAX_VALUE - 19, 10737418, -10737418, 21474836, 65536, 256, 200, -200, 32};
 
     private final Tally tally = new Tally();
     private Random random;
@@ -206,8 +209,7 @@ public final class RandomRunsTest {
         switch (random.nextInt(mostWrong * 4)) {
             case 0: return -1 - random.nextInt(3);
             case 1: return below + random.nextInt(3);
-            case 2: return Integer.MAX_VALUE - random.nextInt(2);
-            case 3: return Integer.MIN_VALUE + random.nextInt(2);
+            case 2: case 3: return EXTREMES[random.nextInt(EXTREMES.length)];
             default: return random.nextInt(Math.max(below, 1));
         }
     }
