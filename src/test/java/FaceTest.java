@@ -1,86 +1,80 @@
+import java.io.IOException;
 import java.lang.reflect.Constructor;
-import java.lang.reflect.Field;
-import java.lang.reflect.Method;
+import java.lang.reflect.Member;
 import java.lang.reflect.Modifier;
-import java.util.Arrays;
-import java.util.Set;
-import java.util.TreeSet;
+import java.nio.file.Files;
+import java.nio.file.Path;
+import java.util.ArrayList;
+import java.util.List;
+import java.util.regex.Matcher;
+import java.util.regex.Pattern;
 
-/** The class bears the members of the document's public face, and no other that is not private. */
+/** The class bears the document's public face, word for word with what its calls throw, and nothing more. */
 public final class FaceTest {
-    private static final String[] METHODS = {
-        "void row(int,int)", "boolean mark(int,int,int,boolean)", "int trade(int,int,boolean)",
-        "boolean pair(int,int,boolean)", "int trader(int,int,int)", "void pitch(int,int,int)", "void months(int,int)",
-        "int wish(int,int,int)", "void wishes(int,boolean)", "void want(int,boolean)", "int day(int)",
-        "boolean there(int)", "boolean word(int)", "int bell()", "int why(int,int,int)", "int good(int)",
-        "int next()", "boolean full()", "int waiting(int)", "boolean move(int,int,int)", "boolean change(int,int)",
-        "int leave(int)", "void hour(int)", "int close()", "long pay(int,long)", "int look(int,int)",
-        "long owed(int)", "int stall(int,int)", "int square(int,int)", "long count(int)"};
+    private static final Path DOCUMENT = Path.of("../shared/DOC.md");
+    private static final Path SOURCE = Path.of("src/main/java/MarketSquare.java");
+    /** The class, its constant, its constructor, and a method for each other promise. */
+    private static final int LINES = 33;
+    private static final Pattern METHOD = Pattern.compile("public \\w+ (\\w+)\\(.*");
 
-    public static void main(String[] args) {
+    public static void main(String[] args) throws IOException {
         Tally tally = new Tally();
-        Class<?> face = MarketSquare.class;
-        tally.check("methods", methodsOf(face).toString(), new TreeSet<>(Arrays.asList(METHODS)).toString());
-        tally.check("fields", fieldsOf(face).toString(), "[public static final int NONE]");
-        tally.check("constructors", constructorsOf(face).toString(), "[public MarketSquare()]");
-        tally.check("the class", Modifier.toString(face.getModifiers()), "public final");
-        tally.check("NONE", String.valueOf(MarketSquare.NONE), "-1");
-        tally.check("static fields that are not final", staticStateOf(face).toString(), "[]");
-        tally.check("private methods with a public one's name", sharedNamesOf(face).toString(), "[]");
+        String source = Files.readString(SOURCE).replaceAll("\\s+", " ");
+        List<String> face = linesOfFace();
+        tally.check("lines of the document's face", "" + face.size(), "" + LINES);
+        for (String line : face) {
+            tally.check(line, "" + (source.contains(line + ";") || source.contains(line + " {")), "true");
+        }
+        List<String> due = methodsOf(face);
+        Class<?> type = MarketSquare.class;
+        tally.check("methods", namesOf(type.getDeclaredMethods(), false).toString(), due.toString());
+        tally.check("fields", namesOf(type.getDeclaredFields(), false).toString(), "[NONE]");
+        tally.check("constructors", constructorsOf(type).toString(), "[public MarketSquare()]");
+        tally.check("NONE", "" + MarketSquare.NONE, "-1");
+        List<String> hidden = namesOf(type.getDeclaredMethods(), true);
+        hidden.retainAll(due);
+        tally.check("private methods with a public one's name", hidden.toString(), "[]");
         tally.close("FaceTest");
     }
 
-    private static Set<String> staticStateOf(Class<?> face) {
-        Set<String> found = new TreeSet<>();
-        for (Field field : face.getDeclaredFields()) {
-            if (Modifier.isStatic(field.getModifiers()) && !Modifier.isFinal(field.getModifiers())) {
-                found.add(field.getName());
+    /** Without what ends them: ";", or " {" behind the class. */
+    private static List<String> linesOfFace() throws IOException {
+        String text = Files.readString(DOCUMENT);
+        List<String> found = new ArrayList<>();
+        for (String line : text.substring(text.indexOf("```java"), text.indexOf("## Terms")).split("\n")) {
+            if (line.trim().startsWith("public ")) {
+                found.add(line.trim().replaceFirst("( \\{|;)$", ""));
             }
         }
         return found;
     }
 
-    private static Set<String> sharedNamesOf(Class<?> face) {
-        Set<String> open = new TreeSet<>();
-        Set<String> hidden = new TreeSet<>();
-        for (Method method : face.getDeclaredMethods()) {
-            (Modifier.isPrivate(method.getModifiers()) ? hidden : open).add(method.getName());
-        }
-        hidden.retainAll(open);
-        return hidden;
-    }
-
-    private static Set<String> methodsOf(Class<?> face) {
-        Set<String> found = new TreeSet<>();
-        for (Method method : face.getDeclaredMethods()) {
-            if (!Modifier.isPrivate(method.getModifiers())) {
-                found.add(signatureOf(method));
+    private static List<String> methodsOf(List<String> face) {
+        List<String> found = new ArrayList<>();
+        for (String line : face) {
+            Matcher method = METHOD.matcher(line);
+            if (method.matches()) {
+                found.add(method.group(1));
             }
         }
+        found.sort(null);
         return found;
     }
 
-    private static String signatureOf(Method method) {
-        StringBuilder text = new StringBuilder();
-        for (Class<?> type : method.getParameterTypes()) {
-            text.append(text.length() == 0 ? "" : ",").append(type.getName());
-        }
-        return method.getReturnType().getName() + " " + method.getName() + "(" + text + ")";
-    }
-
-    private static Set<String> fieldsOf(Class<?> face) {
-        Set<String> found = new TreeSet<>();
-        for (Field field : face.getDeclaredFields()) {
-            if (!Modifier.isPrivate(field.getModifiers())) {
-                found.add(Modifier.toString(field.getModifiers()) + " " + field.getType() + " " + field.getName());
+    private static List<String> namesOf(Member[] members, boolean isPrivate) {
+        List<String> found = new ArrayList<>();
+        for (Member member : members) {
+            if (Modifier.isPrivate(member.getModifiers()) == isPrivate) {
+                found.add(member.getName());
             }
         }
+        found.sort(null);
         return found;
     }
 
-    private static Set<String> constructorsOf(Class<?> face) {
-        Set<String> found = new TreeSet<>();
-        for (Constructor<?> constructor : face.getDeclaredConstructors()) {
+    private static List<String> constructorsOf(Class<?> type) {
+        List<String> found = new ArrayList<>();
+        for (Constructor<?> constructor : type.getDeclaredConstructors()) {
             found.add(constructor.toString());
         }
         return found;
